@@ -35,6 +35,10 @@ public final class ChoiceTest {
         due.is("its pay", x.one(1), (30 * 10 + 10 * 11 + 10 * 12 + 30 * 13) * 12);
         x.keep(0, 0);
         due.is("kept aside", x.one(0), 1);
+        for (int i = 0; i < 4; i++) {
+            x.cell(i, 15, 1, 0, 480, false);
+        }
+        due.is("of like ones the lowest", x.one(0), 0);
         due.is("others", x.one(2), -1);
         due.is("others", x.one(-1), -1);
         for (int i = 0; i < 4; i++) {
@@ -42,6 +46,17 @@ public final class ChoiceTest {
         }
         due.is("of like ones the lowest", x.one(0), 1);
         due.is("its pay", x.one(1), 15 * 4 * 12);
+    }
+
+    private void onlyHour() {
+        HourLines x = new HourLines(2, 2);
+        x.cell(0, 20, 3, 0, 480, false);
+        x.hour(10);
+        due.is("the only hour", x.one(0), 0);
+        due.is("its pay", x.one(1), 360);
+        due.is("none loses", x.loses(0, 1), 0);
+        due.is("none changes", x.free(0), 1);
+        due.is("it", x.many(1, false, 0), 1);
     }
 
     private void losers() {
@@ -71,6 +86,12 @@ public final class ChoiceTest {
         for (int what : new int[] {2, 9, 14, -1, MIN, MAX, MIN + 10}) {
             due.is("free(" + what + ")", x.free(what), -1);
         }
+        x.part(0, 1);
+        x.part(1, 2);
+        due.is("down", x.free(10), 0);
+        due.is("down", x.free(11), 1);
+        x.part(0, 0);
+        x.part(1, 0);
         x.keep(1, 2);
         due.is("a kept cell stays as it is", x.free(11), 0);
         Tape.rule(x, "stay people > 11;");
@@ -81,6 +102,15 @@ public final class ChoiceTest {
         x.part(3, 1);
         due.is("but this one", x.free(1), 1);
         due.is("goes", x.free(13), 2);
+        HourLines y = new HourLines(2, 2);
+        y.hour(0);
+        y.hour(60);
+        y.cell(0, 30, 0, 0, 480, false);
+        Tape.rule(y, "cost 1 - hour; stay off >= 0;");
+        y.summer(1, 11);
+        due.is("month 0 isn't in summer", y.free(10), 1);
+        y.summer(11, 0);
+        due.is("month 0 is", y.free(10), 0);
     }
 
     /** The cell's own hour first, then the lowest; as all others are now. */
@@ -226,6 +256,7 @@ public final class ChoiceTest {
         ChoiceTest test = new ChoiceTest();
         test.withoutHours();
         test.ones();
+        test.onlyHour();
         test.losers();
         test.frees();
         test.freeTies();

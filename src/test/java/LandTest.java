@@ -171,7 +171,7 @@ public final class LandTest {
         x.hour(60);
         x.cell(0, 1, 2, 3, 4, true);
         x.tie(0, 1, 2);
-        x.rise(0, 1);
+        x.rise(0, 20);
         x.summer(1, 2);
         x.keep(0, 1);
         x.part(0, 1);
@@ -197,7 +197,7 @@ public final class LandTest {
         }
         due.is("the fault isn't so again", x.fault(0) * 100 + x.fault(1), 106);
         due.is("sun", x.off(0, 0, 0, 0), -1);
-        due.is("begin and rise", x.off(0, 0, 0, 1), 0);
+        due.is("begin and rise", x.off(0, 0, 0, 1), 20 - 4 - 1);
         due.is("town", x.pull(0, 0, 0), 0);
         due.is("state", x.judge(4), 0);
         due.is("pays by the text then", x.pays(0, 0), 36);

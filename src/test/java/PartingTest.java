@@ -57,6 +57,11 @@ public final class PartingTest {
         x.cell(7, 0, 0, 2, 480, false);
         x.cell(8, 0, 0, 2, 480, false);
         due.is("not the third", x.judge(4), 2);
+        x.cell(0, 0, 0, 3, 480, false);
+        x.cell(8, 0, 0, 3, 480, false);
+        due.is("the first and the last cell", x.judge(4), 3);
+        x.keep(0, 1);
+        due.is("the first cell is kept", x.judge(5), 0);
         due.is("others", x.judge(6), -1);
         due.is("others", x.judge(-1), -1);
         due.is("others", x.judge(MIN), -1);
@@ -76,6 +81,30 @@ public final class PartingTest {
         x.part(4, 1);
         due.is("corners", x.judge(3), 4);
         due.is("judged", x.judge(5), 4);
+    }
+
+    /** A piece that winds: from cell 3 it is reached from below alone. */
+    private void winding() {
+        HourLines x = new HourLines(6, 4);
+        x.hour(0);
+        x.hour(1);
+        String[] rows = {".1.111", ".1.1.1", ".1.1.1", ".111.."};
+        for (int i = 0; i < 24; i++) {
+            x.part(i, rows[i / 6].charAt(i % 6) == '1' ? 1 : 0);
+        }
+        due.is("pieces", x.judge(3), 4);
+        due.is("judged", x.judge(5), 2);
+        rows = new String[] {"...111", "1111.1", "1....1", "111111"};
+        for (int i = 0; i < 24; i++) {
+            x.part(i, rows[i / 6].charAt(i % 6) == '1' ? 1 : 0);
+        }
+        due.is("round about", x.judge(3), 3);
+        due.is("judged", x.judge(5), 10);
+        rows = new String[] {"11111.", "...1.1", ".1.1.1", ".1...1"};
+        for (int i = 0; i < 24; i++) {
+            x.part(i, rows[i / 6].charAt(i % 6) == '1' ? 1 : 0);
+        }
+        due.is("three of 1, two of 0", x.judge(3), 5);
     }
 
     private void prices() {
@@ -114,6 +143,7 @@ public final class PartingTest {
         due.is("0 and 2", x.best(5, false, -1), 4800);
         due.is("cell 2's", x.best(5, false, 2), 2);
         due.is("cell 1's", x.best(5, false, 1), 0);
+        due.is("0 alone", x.best(1, false, -1), (0 + 20 + 40 + 60) * 120);
         due.is("1 alone", x.best(2, false, -1), (30 + 10 + 10 + 30) * 120);
         due.is("cell 0's", x.best(2, false, 0), 1);
         due.is("whole", x.best(7, true, -1), (0 + 20 + 20 + 0) * 120);
@@ -190,10 +220,39 @@ public final class PartingTest {
         due.is("the only hour", x.held(0, false), -1);
         x.hour(8);
         due.is("all like", x.held(0, false), 0);
+        x.cell(0, 8, 1, 0, 480, false);
+        due.is("a price of 0", x.best(3, false, -1), 0);
+        due.is("its hour", x.best(3, false, 0), 1);
         // Just this cell had to have another: the others may go along.
         x.cell(0, 7, 1, 0, 480, false);
         x.tie(0, 1, 99);
         due.is("the other end goes along", x.held(0, false), 12);
+    }
+
+    /** Cells that like the first and the last hour, between neighbours that like the middle. */
+    private void hollow() {
+        HourLines x = new HourLines(3, 2);
+        for (int i = 0; i < 3; i++) {
+            x.hour(10 * i);
+        }
+        Tape.rule(x, "cost if state = 1 ? if hour = 1 ? 90 : 10 end : if hour = 1 ? 0 : 50 end end;");
+        x.cell(1, 0, 0, 1, 480, false);
+        x.cell(4, 0, 0, 1, 480, false);
+        x.tie(1, 0, 20);
+        x.tie(1, 2, 20);
+        x.tie(4, 3, 2);
+        x.tie(1, 4, 1);
+        due.is("best", x.best(7, false, -1), 2 * 120 + 400 + 20);
+        due.is("the first tie cut", x.cut(false, 0), 0);
+        due.is("ties cut", x.cut(false, -1), 3);
+        due.is("cell 1", x.best(7, false, 1), 0);
+        x.tie(1, 0, 41);
+        due.is("its ties outweigh it", x.best(7, false, 0), 0);
+        x.keep(0, 1);
+        x.keep(2, 1);
+        due.is("kept around", x.best(7, false, -1), 2 * 120 + 610 + 200 + 20);
+        x.tie(1, 0, 1);
+        due.is("held", x.held(1, false), 0);
     }
 
     private void manys() {
@@ -212,6 +271,10 @@ public final class PartingTest {
         due.is("none", x.many(0, false, 0), -1);
         due.is("below", x.many(-1, false, 0), -1);
         due.is("others", x.many(1, false, 3), -1);
+        due.is("others", x.many(2, false, 3), -1);
+        due.is("others", x.many(2, false, -1), -1);
+        due.is("others", x.many(4, false, 1), -1);
+        due.is("others", x.many(0, true, 2), -1);
         due.is("others", x.many(1, false, -1), -1);
         due.is("others", x.many(MAX, false, MIN), -1);
         x.hour(61);
@@ -232,10 +295,12 @@ public final class PartingTest {
         test.withoutHours();
         test.judged();
         test.ends();
+        test.winding();
         test.prices();
         test.bests();
         test.lowest();
         test.helds();
+        test.hollow();
         test.manys();
         test.due.end();
     }

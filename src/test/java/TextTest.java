@@ -56,6 +56,9 @@ public final class TextTest {
             {"cost if 1=1 ? 1 : 2 end 3;", 1, 24}, {"cost if 1=1 ? 1=1 : 2 end;", 1, 15},
             {"cost end;", 1, 5}, {"cost 12ab;", 1, 7}, {"cost ab12;", 1, 5}, {"cost 1 ? 2;", 1, 7},
             {"cost if if 1=1 ? 1 : 2 end = 1 ? 1 : 2 end;", 0, -1}, {"cost \u00e9;", 1, 5}, {"end", 1, 0},
+            {"cost offz;", 1, 5}, {"cost offa;", 1, 5}, {"cost offZ;", 1, 5}, {"cost offA;", 1, 5},
+            {"cost off[;", 1, 8}, {"cost off@;", 1, 8}, {"cost off`;", 1, 8}, {"cost off{;", 1, 8},
+            {"cost 90/;", 1, 8}, {"cost 1:;", 1, 6}, {"stay 1<", 1, 7}, {"stay 1>", 1, 7},
             {"cost 10000 !", 2, 5}, {"cost ! 10000", 1, 5}, {"cost 1 not", 1, 7}, {"cost not 1;", 1, 5},
         };
         for (Object[] one : all) {
@@ -116,15 +119,23 @@ public final class TextTest {
         HourLines x = new HourLines(2, 2);
         due.is("ahead of any", x.fault(0), -1);
         due.is("ahead of any", x.fault(1), -1);
+        due.is("one with a fault", Tape.tell(x, "cost 10000;"), -1);
+        due.is("its fault", x.fault(0), 2);
+        due.is("its place", x.fault(1), 5);
         for (int i = 0; i < 4; i++) {
             due.is("by of one that isn't", x.by(i), false);
             due.is("text " + i, Tape.tell(x, "cost " + i + ";"), i);
+            due.is("no fault then", x.fault(0), 0);
+            due.is("no place then", x.fault(1), -1);
             due.is("by", x.by(i), true);
             due.is("THE TEXT", x.about(5), i);
         }
         Tape.put(x, "cost 5;");
         due.is("a fifth", x.text(), -1);
         due.is("the tape stays", x.about(8), 7);
+        Tape.put(x, "cost");
+        due.is("a fifth isn't read", x.text(), -1);
+        due.is("the tape stays", x.about(8), 4);
         due.is("no fault", x.fault(0), 0);
         due.is("no place", x.fault(1), -1);
         due.is("others", x.fault(2), -1);
@@ -207,6 +218,14 @@ public final class TextTest {
         for (int i = 0; i < signs.length; i++) {
             for (int k = 1; k <= 3; k++) {
                 asks(k + " " + signs[i] + " 2", is[i][k - 1]);
+            }
+        }
+        String[] so = {"1 < 2", "1 <= 2", "2 > 1", "2 >= 1", "2 = 2", "1 # 2", "not 1 = 2", "not not 1 = 1"};
+        for (String one : so) {
+            for (String other : so) {
+                asks(one + " and " + other, true);
+                asks(one + " or " + other, true);
+                asks("not " + one + " or not " + other, false);
             }
         }
         asks("1 = 1 or 1 = 2 and 1 = 2", true);

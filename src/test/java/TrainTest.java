@@ -55,6 +55,9 @@ public final class TrainTest {
         due.is("as late as it was there", x.early(1), -1);
         x.stop(1, 0, 29);
         due.is("a minute ahead", x.early(1), 4);
+        x.stop(5, 1, 100);
+        x.stop(5, 0, 29);
+        due.is("the last train", x.early(5), 1);
         x.part(0, 1);
         due.is("by THE PARTING", x.early(1), -1);
         x.summer(0, 11);

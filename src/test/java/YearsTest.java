@@ -32,9 +32,14 @@ public final class YearsTest {
         x = land("grow 5000;");
         x.years(1, false);
         due.is("100 at most", x.about(10), 100);
+        due.is("100 at most", x.about(11), 398);
+        x = land("grow 0 - people - 1;");
+        x.years(1, false);
+        due.is("as far as it goes", x.about(10), 50 - 25);
         x = land("grow - 5000;");
         x.years(1, false);
         due.is("-100 at least", x.about(10), 0);
+        due.is("no people less than none", x.about(12), 0);
         x = land("grow if month = 0 and hour = 0 ? off + town + people / 50 : 50 end;");
         x.summer(0, 0);
         x.years(1, false);
