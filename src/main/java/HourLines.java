@@ -1,7 +1,8 @@
 /**
  * Where the hour changes: a land of cells, the hours told in it, and the partings that give every
- * cell one of them. Everything is allocated by the constructor and used again by every call, since
- * all calls of a run share one small room.
+ * cell one of them. What each method answers is told by the document (../shared/DOC.md), promise by
+ * promise. All rows are made by the constructor and used again by every call, since all calls of a
+ * run share one small room.
  */
 public final class HourLines {
     public static final int NONE = -1;
@@ -49,7 +50,7 @@ public final class HourLines {
     private final Parter parter;
     private final Drift drift;
     private final int[] trial;
-    private final int[] more;
+    private final int[] summerMore;
 
     public HourLines(int w, int h) {
         width = bounded(w, MIN_SIDE, MAX_WIDTH);
@@ -69,7 +70,7 @@ public final class HourLines {
         parter = new Parter(land, purse);
         drift = new Drift(land, purse, worker);
         trial = new int[cells];
-        more = new int[MONTHS];
+        summerMore = new int[MONTHS];
     }
 
     public boolean cell(int cell, int sun, int people, int state, int begin, boolean town) {
@@ -202,7 +203,7 @@ public final class HourLines {
             return NONE;
         }
         purse.refresh();
-        return purse.of(cell, hour);
+        return purse.payOf(cell, hour);
     }
 
     public int judge(int what) {
@@ -215,7 +216,7 @@ public final class HourLines {
             case 0:
                 return priceOf(land.parting);
             case 1:
-                return purse.ofAll(land.parting);
+                return purse.payOfAll(land.parting);
             case 2:
                 return land.ties.payBy(land.parting, land.offset);
             case 3:
@@ -286,11 +287,11 @@ public final class HourLines {
         purse.refresh();
         int chosen = 0;
         for (int i = 1; i < land.hours; i++) {
-            if (purse.ofAllBy(i) < purse.ofAllBy(chosen)) {
+            if (purse.payOfAllBy(i) < purse.payOfAllBy(chosen)) {
                 chosen = i;
             }
         }
-        return what == 0 ? chosen : purse.ofAllBy(chosen);
+        return what == 0 ? chosen : purse.payOfAllBy(chosen);
     }
 
     public int loses(int hour, int what) {
@@ -300,7 +301,7 @@ public final class HourLines {
         purse.refresh();
         int sum = 0;
         for (int i = 0; i < cells; i++) {
-            if (purse.leastOf(i) < purse.of(i, hour)) {
+            if (purse.leastPayOf(i) < purse.payOf(i, hour)) {
                 sum += what == 0 ? land.people[i] : 1;
             }
         }
@@ -341,9 +342,9 @@ public final class HourLines {
         }
         int plain = land.ties.payBy(land.parting, land.offset);
         for (int i = 0; i < MONTHS; i++) {
-            int bare = purse.ofMonth(i, false);
+            int bare = purse.payOfMonth(i, false);
             plain += bare;
-            more[i] = purse.ofMonth(i, true) - bare;
+            summerMore[i] = purse.payOfMonth(i, true) - bare;
         }
         int from = NONE;
         int to = NONE;
@@ -351,7 +352,7 @@ public final class HourLines {
         for (int a = 0; a < MONTHS; a++) {
             int sum = 0;
             for (int b = a; b < MONTHS; b++) {
-                sum += more[b];
+                sum += summerMore[b];
                 if (sum < least) {
                     least = sum;
                     from = a;
@@ -414,8 +415,8 @@ public final class HourLines {
         }
         purse.refresh();
         int lower = land.parting[cell];
-        int now = purse.of(cell, lower);
-        int then = Math.max(now, purse.of(cell, lower + 1));
+        int now = purse.payOf(cell, lower);
+        int then = Math.max(now, purse.payOf(cell, lower + 1));
         return now - then + land.ties.sparedByBoth(cell, land.parting, land.offset);
     }
 
@@ -482,7 +483,7 @@ public final class HourLines {
     }
 
     private int priceOf(int[] hourOf) {
-        return purse.ofAll(hourOf) + land.ties.payBy(hourOf, land.offset);
+        return purse.payOfAll(hourOf) + land.ties.payBy(hourOf, land.offset);
     }
 
     private void putBytes(int four) {
@@ -843,7 +844,7 @@ public final class HourLines {
         }
 
         /** A jump is told ahead of what it leaps over, so its goal comes later. */
-        private void landHere(int jump) {
+        private void aimHere(int jump) {
             if (within(jump, 0, length - 1)) {
                 steps[jump] = kindAt(jump) | length << KIND_BITS;
             }
@@ -940,15 +941,15 @@ public final class HourLines {
 
         /** Here and below: open is how many of ( not if and - stand open around this place. */
         private void readEither(int open) {
-            readAll(open);
+            readBoth(open);
             for (int i = 0; i < TAPE && fault == 0 && kind == OR; i++) {
                 advance();
-                readAll(open);
+                readBoth(open);
                 draft.add(OR, 0);
             }
         }
 
-        private void readAll(int open) {
+        private void readBoth(int open) {
             readAsk(open);
             for (int i = 0; i < TAPE && fault == 0 && kind == AND; i++) {
                 advance();
@@ -993,16 +994,16 @@ public final class HourLines {
         }
 
         private void readProduct(int open) {
-            readOperand(open);
+            readOne(open);
             for (int i = 0; i < TAPE && fault == 0 && (kind == TIMES || kind == OVER); i++) {
                 int sign = kind;
                 advance();
-                readOperand(open);
+                readOne(open);
                 draft.add(sign, 0);
             }
         }
 
-        private void readOperand(int open) {
+        private void readOne(int open) {
             if (fault != 0) {
                 return;
             }
@@ -1027,7 +1028,7 @@ public final class HourLines {
                 readSum(open);
                 demand(CLOSE);
             } else if (opener == MINUS) {
-                readOperand(open);
+                readOne(open);
                 draft.add(Text.NEGATE, 0);
             } else {
                 readChoice(open);
@@ -1041,10 +1042,10 @@ public final class HourLines {
             readSum(open);
             demand(COLON);
             int leap = draft.add(Text.JUMP, 0);
-            draft.landHere(unless);
+            draft.aimHere(unless);
             readSum(open);
             demand(END);
-            draft.landHere(leap);
+            draft.aimHere(leap);
         }
 
         private void refuse(int reason) {
@@ -1298,36 +1299,36 @@ public final class HourLines {
             return bounded(worker.ask(Text.COST, cell, hour, month, summery, 0), 0, MAX_COST);
         }
 
-        private int of(int cell, int hour) {
+        private int payOf(int cell, int hour) {
             return table[cell * HOURS + hour];
         }
 
-        private int leastOf(int cell) {
-            int least = of(cell, 0);
+        private int leastPayOf(int cell) {
+            int least = payOf(cell, 0);
             for (int i = 1; i < land.hours; i++) {
-                least = Math.min(least, of(cell, i));
+                least = Math.min(least, payOf(cell, i));
             }
             return least;
         }
 
-        private int ofAll(int[] hourOf) {
+        private int payOfAll(int[] hourOf) {
             int sum = 0;
             for (int i = 0; i < fresh.length; i++) {
-                sum += of(i, hourOf[i]);
+                sum += payOf(i, hourOf[i]);
             }
             return sum;
         }
 
-        private int ofAllBy(int hour) {
+        private int payOfAllBy(int hour) {
             int sum = 0;
             for (int i = 0; i < fresh.length; i++) {
-                sum += of(i, hour);
+                sum += payOf(i, hour);
             }
             return sum;
         }
 
         /** What all cells pay by the parting in one month, were it in summer or not. */
-        private int ofMonth(int month, boolean summery) {
+        private int payOfMonth(int month, boolean summery) {
             int sum = 0;
             for (int i = 0; i < fresh.length; i++) {
                 sum += inMonth(i, land.parting[i], month, summery);
@@ -1622,7 +1623,7 @@ public final class HourLines {
                     boolean barred = i == barredCell && hour == barredHour;
                     boolean free = land.kept[i] == NONE || land.kept[i] == hour;
                     groupPays[groupOf(i, whole) * HOURS + k] +=
-                            free && !barred ? purse.of(i, hour) : FORBIDDEN;
+                            free && !barred ? purse.payOf(i, hour) : FORBIDDEN;
                 }
             }
         }
@@ -1739,7 +1740,7 @@ public final class HourLines {
         }
 
         private int payOf(int cell, int hour) {
-            return purse.of(cell, hour) + land.ties.payOfCell(cell, hour, hourOf, land.offset);
+            return purse.payOf(cell, hour) + land.ties.payOfCell(cell, hour, hourOf, land.offset);
         }
 
         private boolean stays(int cell) {

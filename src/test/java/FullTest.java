@@ -9,10 +9,12 @@ public final class FullTest {
 
     private FullTest(long seed, boolean near) {
         by = new Random(seed);
+        // All steps are of one size then, so that many partings are of like price.
+        boolean even = seed % 3 == 2;
         int offset = by.nextInt(40);
         for (int i = 0; i < 4; i++) {
             due.is("hour", x.hour(offset), m.hour(offset));
-            offset += 1 + by.nextInt(80);
+            offset += even ? 12 : 1 + by.nextInt(80);
         }
         for (int i = 0; i < 24; i++) {
             int sun = by.nextInt(301);
@@ -25,11 +27,13 @@ public final class FullTest {
         for (int i = 0; i < 40; i++) {
             int one = by.nextInt(24);
             int other = near ? (one + 1 + by.nextInt(3)) % 24 : (one + 1 + by.nextInt(23)) % 24;
-            int weight = 1 + by.nextInt(99);
+            int weight = 1 + by.nextInt(even ? 2 : seed % 5 == 0 ? 99 : seed % 5 < 3 ? 30 : 9);
             due.is("tie", x.tie(one, other, weight), m.tie(one, other, weight));
         }
-        // Hours are liked in no order at all.
-        String text = "cost (people * (hour * 7 + 3) + off * 13) * 37 / (hour + 2) - state * 10;";
+        // Hours are liked in no order at all, by about as much as ties weigh.
+        String likes = "(people + 1) * (hour * hour * 17 + hour * 29 + 5)";
+        int most = even ? 5 : 97;
+        String text = "cost " + likes + " - " + likes + " / " + most + " * " + most + ";";
         if (seed % 3 > 0) {
             int fed = 0;
             for (; fed < text.length(); fed += 20) {
@@ -50,7 +54,7 @@ public final class FullTest {
             due.is("best of " + set, x.best(set, false, -1), m.best(set, false, -1));
             due.is("best of " + set + ", whole", x.best(set, true, -1), m.best(set, true, -1));
         }
-        for (int i = 0; i < 24; i += 1 + by.nextInt(4)) {
+        for (int i = 0; i < 24; i++) {
             due.is("best, cell " + i, x.best(15, false, i), m.best(15, false, i));
             due.is("best, whole, cell " + i, x.best(15, true, i), m.best(15, true, i));
             due.is("pull " + i, x.pull(i, i % 4, 45), m.pull(i, i % 4, 45));
@@ -74,7 +78,7 @@ public final class FullTest {
     }
 
     public static void main(String[] args) {
-        int runs = args.length > 0 ? Integer.parseInt(args[0]) : 12;
+        int runs = args.length > 0 ? Integer.parseInt(args[0]) : 40;
         for (int seed = 0; seed < runs; seed++) {
             if (!new FullTest(seed, seed % 4 != 0).run()) {
                 System.out.println("in the land of seed " + seed);
