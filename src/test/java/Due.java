@@ -27,6 +27,10 @@ final class Due {
         return wrong != 0;
     }
 
+    int wrong() {
+        return wrong;
+    }
+
     void end() {
         System.out.println(wrong == 0 ? asked + " answers as due" : wrong + " of " + asked + " answers not as due");
         if (wrong != 0) {
