@@ -1541,8 +1541,8 @@ public final class HourLines {
         }
 
         private long pushAlong(int length) {
-            long flow = Long.MAX_VALUE;
-            for (int i = 0; i < length; i++) {
+            long flow = length > 0 ? room[path[0]] : 0;
+            for (int i = 1; i < length; i++) {
                 flow = Math.min(flow, room[path[i]]);
             }
             for (int i = 0; i < length; i++) {

@@ -26,6 +26,13 @@ public final class FaceTest {
         "\\bimport\\b", "\\bpackage\\b", "\\bstatic\\s*\\{", "\\bprotected\\b", "Exact\\b", "\\bnative\\b",
         "\\b(equals|hashCode|toString)\\s*\\(", "\\bSystem\\.(?!arraycopy\\b)", "\\bThread\\b", "\\bRandom\\b"};
 
+    /** Rule 4, as far as a name with a point in it tells; of Long and Integer the functions, not the constants. */
+    private static final Set<String> LISTED = Set.of(
+        "System.arraycopy(", "Arrays.copyOf(", "Arrays.copyOfRange(", "Arrays.fill(", "Math.abs(", "Math.max(",
+        "Math.min(", "Math.floorDiv(", "Math.floorMod(", "Integer.bitCount(", "Integer.compare(", "Long.compare(");
+
+    private static final int MOST_LINES = 60;
+
     private final Due due = new Due();
 
     private static String types(Class<?>[] of) {
@@ -77,7 +84,8 @@ public final class FaceTest {
         int fields = 0;
         for (Field f : c.getDeclaredFields()) {
             if (Modifier.isStatic(f.getModifiers())) {
-                due.holds(f + " is a constant", Modifier.isFinal(f.getModifiers()));
+                due.holds(f + " is a constant", Modifier.isFinal(f.getModifiers())
+                        && f.getType().getName().matches("int|long|boolean|char|java.lang.String|\\[[IJCB]"));
             } else {
                 fields++;
             }
@@ -104,10 +112,40 @@ public final class FaceTest {
             Matcher m = Pattern.compile(rule).matcher(bare);
             due.holds("the source has no " + rule, !m.find());
         }
+        library(bare);
+        lengths(bare);
         due.holds("no text is joined by +", !Pattern.compile("TEXT\\s*\\+|\\+\\s*TEXT").matcher(bare).find());
         for (int i = 0; i < source.length(); i++) {
             if (source.charAt(i) > 126) {
                 due.holds("a plain sign at " + i, false);
+            }
+        }
+    }
+
+    private void library(String bare) {
+        Set<String> own = new TreeSet<>();
+        for (Class<?> c : HourLines.class.getDeclaredClasses()) {
+            own.add(c.getSimpleName());
+        }
+        Matcher m = Pattern.compile("\\b([A-Z][a-z]\\w*)\\s*\\.\\s*(\\w+)\\s*(\\(?)").matcher(bare);
+        while (m.find()) {
+            String used = m.group(1) + "." + m.group(2) + m.group(3);
+            due.holds(used + " is of the file or of the library's list",
+                    own.contains(m.group(1)) || LISTED.contains(used));
+        }
+    }
+
+    /** A method begins and ends at one indent: four blanks, or eight in a class inside. */
+    private void lengths(String bare) {
+        String[] lines = bare.split("\n");
+        for (int i = 0; i < lines.length; i++) {
+            Matcher m = Pattern.compile("( {4}| {8})(private|public) (?!.*\\bclass\\b)[^=;]*\\(.*").matcher(lines[i]);
+            if (m.matches()) {
+                int last = i;
+                while (last < lines.length && !lines[last].equals(m.group(1) + "}")) {
+                    last++;
+                }
+                due.holds("short, from its first line to its last: " + lines[i].trim(), last - i < MOST_LINES);
             }
         }
     }
